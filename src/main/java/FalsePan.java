@@ -456,7 +456,9 @@ public final class FalsePan {
     /** The least n with which 3 to the power of n is at least the number of cases. */
     private static int weighingsFor(int cases) {
         int n = 0;
-        for (int reached = 1; reached < cases; reached *= 3) {
+        int reached = 1;
+        for (int i = 0; i < MOST_WEIGHINGS && reached < cases; i++) {
+            reached *= 3;
             n++;
         }
         return n;

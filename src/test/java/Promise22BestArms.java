@@ -11,6 +11,7 @@ public final class Promise22BestArms {
         Check.onlyAnswers("bestArms(1, 0)", 111, () -> Check.loaded("P0300l0a1112"), y -> y.bestArms(1, 0));
         // Only the longest left arm makes up for two coins.
         Check.onlyAnswers("bestArms(0, 6)", 2001, () -> Check.loaded("P0300l0a1112"), y -> y.bestArms(0, 6));
+        Check.onlyAnswers("bestArms(6, 0)", 120, () -> Check.loaded("P0300l0a1112"), y -> y.bestArms(6, 0));
         // Two coins against one: the right arm has to be twice as long.
         Check.onlyAnswers("bestArms(3, 4)", 102, () -> Check.loaded("P0300l0"), y -> y.bestArms(3, 4));
         Check.onlyAnswers("bestArms(4, 3)", 201, () -> Check.loaded("P0300l0"), y -> y.bestArms(4, 3));

@@ -25,7 +25,11 @@ public final class Promise23RunScript {
 
     private static void weighs() {
         succeeds(10001);
+        succeeds(10099);
+        succeeds(10399);
         succeeds(10499);
+        due(2, 10299_60007L, FalsePan.NONE);
+        due(2, 10299_60006L, 1);
         succeeds(10004);
         fails(10000);
         fails(10500);
