@@ -4,17 +4,39 @@ public final class Promise04ErrorPosition {
         head();
         weighings();
         arms();
-        Check.onlyAnswers("errorPosition", -1, Check::used, y -> y.errorPosition());
-        Check.due("the text of 120 characters",
-                Check.withText("P0900l0" + "a1010".repeat(22) + "av.").errorPosition(), 118);
-        Check.due("a table of 120 characters",
-                Check.withText("P0900l0wabva." + "a1010".repeat(20) + "wav.bv.".substring(0, 4) + "wv.")
-                        .errorPosition(), FalsePan.NONE);
+        lengths();
+        Check.onlyAnswers("errorPosition of a table", Check.NONE, Check::used, y -> y.errorPosition());
+        Check.onlyAnswers("errorPosition of 120 characters", Check.NONE, Check::full, y -> y.errorPosition());
+        Check.onlyAnswers("errorPosition of the empty text", 0, Pan::new, y -> y.errorPosition());
+        Check.onlyAnswers("errorPosition of no table", 3, () -> Check.withText("P09x"), y -> y.errorPosition());
         Check.finish();
     }
 
     private static void at(String text, int want) {
         Check.due("errorPosition of '" + text + "'", Check.withText(text).errorPosition(), want);
+    }
+
+    /** The empty text, one of 120 characters, and what was emptied or goes on behind an error. */
+    private static void lengths() {
+        String most = "P0900l0wabva." + "a1010".repeat(20) + "wav.";
+        at("", 0);
+        at(most, Check.NONE);
+        at(most + "wv.", Check.NONE);
+        at(most + "wvv", 119);
+        at(most + "w.v", 118);
+        at(most + "Pv.", 117);
+        at(most + "wva", 120);
+        at("x" + most + "wv", 0);
+        Pan x = Check.withText("P0x");
+        Check.due("an error", x.errorPosition(), 2);
+        Check.write(x, "00l0");
+        Check.due("an error, with more behind it", x.errorPosition(), 2);
+        x.clearText();
+        Check.due("emptied", x.errorPosition(), 0);
+        Check.write(x, "P0300l");
+        Check.due("written anew", x.errorPosition(), 6);
+        x.append('0');
+        Check.due("and complete", x.errorPosition(), Check.NONE);
     }
 
     private static void head() {

@@ -12,20 +12,15 @@ public final class Promise09IsLeft {
         left("P0300t1wabc" + "v.", 3, 0, 1, 2, 3, 4, 5, 6, 7, 8, 9, 10, 11, 12, 13, 14, 15, 16, 17, 18, 19, 20);
         // 11 * 10 against 10 * 11: level only if b is heavy or the right pan false, not both.
         left("P0301h0a1110wavb.", 3, 9, 14, 17, 20);
-        Check.onlyAnswers("isLeft of the hidden case", 1, Check::used, y -> y.isLeft(22));
-        Check.onlyAnswers("isLeft of another", 0, Check::used, y -> y.isLeft(30));
-        Check.refused("isLeft(-1)", IndexOutOfBoundsException.class, Check::used, y -> y.isLeft(-1));
-        Check.refused("isLeft(33) of 33", IndexOutOfBoundsException.class, Check::used, y -> y.isLeft(33));
-        Check.refused("isLeft(most)", IndexOutOfBoundsException.class, Check::used,
-                y -> y.isLeft(Integer.MAX_VALUE));
-        Check.due("the last of 75", Check.loaded("P1200l0").isLeft(74), 1);
-        Check.due("isLeft(75) of 75", Check.answer(Check.loaded("P1200l0"), y -> y.isLeft(75)),
-                "throws IndexOutOfBoundsException");
+        // One case is left: the first one, the last one.
+        left("P0300l0a1009wavb.wbva.wcvb.a1010wbvc.", 3, 0);
+        left("P0300t2wavb.wbva.wavc.wcva.", 3, 20);
+        firstAndLast();
         Check.finish();
     }
 
     private static void left(String text, int coins, int... cases) {
-        FalsePan x = Check.loaded(text);
+        Pan x = Check.loaded(text);
         for (int k = 0; k < 6 * coins + 3; k++) {
             int want = 0;
             for (int left : cases) {
@@ -33,5 +28,27 @@ public final class Promise09IsLeft {
             }
             Check.due(text + ": isLeft(" + k + ")", x.isLeft(k), want);
         }
+    }
+
+    private static void firstAndLast() {
+        for (int coins = 3; coins <= 12; coins++) {
+            int n = coins;
+            Check.Maker maker = () -> Check.hidden(n, 0);
+            Check.onlyAnswers("the first case of " + n, 1, maker, y -> y.isLeft(0));
+            Check.onlyAnswers("the last case of " + n, 1, maker, y -> y.isLeft(6 * n + 2));
+            Check.refused("one behind the last case of " + n, Check.INDEX, maker, y -> y.isLeft(6 * n + 3));
+            Check.refused("one ahead of the first case of " + n, Check.INDEX, maker, y -> y.isLeft(-1));
+            Check.refused("the case 75 of " + n, Check.INDEX, maker, y -> y.isLeft(75));
+        }
+        Check.onlyAnswers("isLeft of the hidden case", 1, Check::used, y -> y.isLeft(22));
+        Check.onlyAnswers("isLeft of another", 0, Check::used, y -> y.isLeft(30));
+        for (int k = 0; k < 33; k++) {
+            int number = k;
+            Check.changesNothing("isLeft(" + k + ")", y -> y.isLeft(number));
+        }
+        Check.refused("isLeft(-1)", Check.INDEX, y -> y.isLeft(-1));
+        Check.refused("isLeft(33) of 33", Check.INDEX, y -> y.isLeft(33));
+        Check.refused("isLeft(least)", Check.INDEX, y -> y.isLeft(Integer.MIN_VALUE));
+        Check.refused("isLeft(most)", Check.INDEX, y -> y.isLeft(Integer.MAX_VALUE));
     }
 }

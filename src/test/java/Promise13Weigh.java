@@ -2,22 +2,19 @@
 public final class Promise13Weigh {
     public static void main(String[] args) {
         outcomes();
-        FalsePan x = Check.loaded("P0500l0");
+        Pan x = Check.loaded("P0500l0");
         Check.due("weigh", x.weigh(1, 2), 2);
         Check.due("weighings", x.about(3), 1);
         Check.due("weigh is an action", x.undo(), 0);
         Check.due("weighings, taken back", x.about(3), 0);
         Check.due("cases, taken back", x.about(2), 33);
-        sets("weigh", 5);
-        sets("weigh", 3);
-        sets("weigh", 12);
-        Check.Maker full = () -> Check.loaded("P0300l0" + "wavb.".repeat(20));
-        Check.due("20 weighings", full.make().about(3), 20);
-        Check.refused("the 21st", IllegalStateException.class, full, y -> y.weigh(1, 2));
-        Check.refused("the 21st, of bad sets", IllegalArgumentException.class, full, y -> y.weigh(1, 1));
-        FalsePan again = full.make();
-        again.forget();
-        Check.due("behind a forget there is room", again.weigh(1, 2), 2);
+        for (int coins : new int[] {3, 4, 9, 11, 12}) {
+            sets(coins);
+        }
+        for (int[] pair : Sets.bad(5)) {
+            Check.refused(Sets.told("weigh", pair, 5), Check.ARGUMENT, y -> y.weigh(pair[0], pair[1]));
+        }
+        twenty();
         Check.finish();
     }
 
@@ -57,17 +54,39 @@ public final class Promise13Weigh {
         outcome("P1211l0", 63, 4032, 1);
     }
 
-    private static void sets(String what, int coins) {
-        Check.Maker maker = () -> {
-            FalsePan x = Check.used();
-            x.hide(coins, 0);
-            return x;
-        };
-        int[][] bad = {{0, 0}, {1, 1}, {3, 2}, {3, 6}, {1 << coins, 1}, {1, 1 << coins}, {-1, 0}, {0, -1},
-            {1, -2}, {Integer.MIN_VALUE, 1}, {1, Integer.MIN_VALUE}, {Integer.MAX_VALUE, 0}, {1 << 30, 0}};
-        for (int[] b : bad) {
-            Check.refused(what + "(" + b[0] + ", " + b[1] + ") of " + coins, IllegalArgumentException.class, maker,
-                    y -> y.weigh(b[0], b[1]));
+    private static void sets(int coins) {
+        for (int[] pair : Sets.good(coins)) {
+            Pan x = Check.hidden(coins, 6 * coins);
+            String told = Sets.told("weigh", pair, coins);
+            int outcome = x.weigh(pair[0], pair[1]);
+            Check.due(told + ": left", x.weighing(0, 0), pair[0]);
+            Check.due(told + ": right", x.weighing(0, 1), pair[1]);
+            Check.due(told + ": outcome", x.weighing(0, 2), outcome);
+            Check.due(told + ": cases left", x.weighing(0, 5), x.about(2));
+        }
+        Check.Maker maker = () -> Check.hidden(coins, 0);
+        for (int[] pair : Sets.bad(coins)) {
+            Check.refused(Sets.told("weigh", pair, coins), Check.ARGUMENT, maker, y -> y.weigh(pair[0], pair[1]));
+        }
+    }
+
+    private static void twenty() {
+        Pan x = Check.hidden(3, 0);
+        for (int i = 1; i <= 20; i++) {
+            Check.due("the weighing " + i, x.weigh(1, 2), 2);
+            Check.due("weighings behind it", x.about(3), i);
+        }
+        Check.refuses("the weighing 21", Check.STATE, x, y -> y.weigh(1, 2));
+        Check.due("weighings behind it", x.about(3), 20);
+        x.forget();
+        Check.due("behind a forget there is room", x.weigh(4, 2), 0);
+        Check.due("the twentieth is another one", x.weighing(19, 0), 4);
+        x.undo();
+        Check.due("behind an undo there is room", x.weigh(2, 4), 0);
+        Check.refuses("but for no more", Check.STATE, x, y -> y.weigh(2, 4));
+        for (int[] pair : Sets.good(5)) {
+            Check.refused(Sets.told("a twenty-first weigh", pair, 5), Check.STATE, Check::full,
+                    y -> y.weigh(pair[0], pair[1]));
         }
     }
 }
