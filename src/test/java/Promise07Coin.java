@@ -20,6 +20,10 @@ public final class Promise07Coin {
         Pan pan = Check.loaded("P0300t1wavb.wavc.wbvc.");
         // The left pan is false, and a is heavy, or c light, or no coin false.
         coins("the left pan is false, and perhaps a coin", pan, 6, 4, 5);
+        coins("all 12 are true, and known", Check.loaded("P1200t0wabcdefvghijkl.wghijklvabcdef."),
+                4, 4, 4, 4, 4, 4, 4, 4, 4, 4, 4, 4);
+        coins("all 12 are true, or the last is not", Check.loaded("P1211h0wabcdevfghij.wfghijvabcde.wkva."),
+                4, 4, 4, 4, 4, 4, 4, 4, 4, 4, 4, 7);
         coins("the last of 12 is heavy", Check.loaded("P1211h0wlva.wavl.wlvb."),
                 4, 4, 4, 4, 4, 4, 4, 4, 4, 4, 4, 2);
         firstAndLast();

@@ -14,7 +14,11 @@ public final class Promise19Best {
             byLeaves("P0503h0wabvcd.a0910wavb.", j);
             byLeaves("P1211h1wabcvjkl.", j);
             byLeaves("P1202h0wacgivbdfl.wbdgjvefhk.", j);
+            byLeaves("P0302h2wav.a1110wav.", j);
+            byLeaves("P1205h2wklvgi.wdghklvafj.wklvbj.a2019wcdgivabef.", j);
+            byLeaves("P1202h0whivkl.a1112wjvk.a1110wabdfgkvehl.wcfhkvabdgj.wgijlvcdef.", j);
         }
+        lastCoins();
         fewCoins();
         for (int j = 1; j <= 2; j++) {
             for (int what = 0; what <= 2; what++) {
@@ -69,6 +73,17 @@ public final class Promise19Best {
         best("P0302h0" + "wavb.".repeat(20), 1, 1, 4, 3);
     }
 
+    /** The last coins are the best ones, in the one pan or the other. */
+    private static void lastCoins() {
+        // l is light or heavy, or none is false.
+        best("P1211h0wabcdevfghij.wfghijvabcde.wkva.", 1, 1, 2048, 1);
+        best("P1211h0wabcdevfghij.wfghijvabcde.wkva.", 2, 3, 2052, 1);
+        best("P1211l1wkvd.wlvj.wjkvci.", 1, 2048, 1024, 1);
+        best("P1211l0a1110wikvbl.wlvc.", 2, 2049, 6, 1);
+        best("P1207h2wlvh.whivkl.", 2, 3, 3072, 2);
+        best("P0400l2wcva.wavd.", 1, 8, 1, 1);
+    }
+
     /** "NONE if there are not so many coins": 2 against 2 of 3; 4 are enough. */
     private static void fewCoins() {
         best("P0300l0", 2, Check.NONE, Check.NONE, Check.NONE);
@@ -94,7 +109,7 @@ public final class Promise19Best {
                 sets.add(set);
             }
         }
-        int[] found = {0, 0, 1000};
+        int[] found = {Check.NONE, Check.NONE, 1000};
         for (int a : sets) {
             Pan x = Check.loaded(text);
             for (int b : sets) {
@@ -104,6 +119,6 @@ public final class Promise19Best {
                 }
             }
         }
-        best(text, j, found[0], found[1], found[2]);
+        best(text, j, found[0], found[1], found[2] == 1000 ? Check.NONE : found[2]);
     }
 }

@@ -17,6 +17,11 @@ public final class Promise20Sharpest {
         againstLeaves("P1211l1wefklvabcgi.wcdefghjlvabk.wcikvejl.wbdfkvacil.");
         againstLeaves("P1202h2wabhijvckl.wabfhjvcegil.wbijkvafhl.");
         againstLeaves("P1200t2wcelvbfg.wbfgklvachij.");
+        againstLeaves("P0302h2wav.a1110wav.");
+        againstLeaves("P0301h2a1110wavc.a1109wbvc.");
+        againstLeaves("P0401h0a1211wav.wav.");
+        againstLeaves("P1201h0wav.a1211wijvgl.a1111wbcdfhijvagkl.");
+        againstLeaves("P1209h0wefjvabi.");
         againstLeaves("P0300l2wbvc.");
         againstLeaves("P0403l2wdvb.");
         againstLeaves("P0300h1wavc.");
@@ -48,6 +53,7 @@ public final class Promise20Sharpest {
         againstLeaves("P0302h1a0110wav.");
         againstLeaves("P0301l2wbva.a0220wva.");
         againstLeaves("P0401h0a0218wav.");
+        againstLeaves("P0300h0a0110wvb.wavc.");
         againstLeaves("P1207l0a0119wdekva.");
         againstLeaves("P1202h0wbefhilvajk.wdhiklvacfgj.wadfgjklvce.a0110wbghijvcdef.");
         againstLeaves("P1201h0wcdfglvabhjk.wacdiklvefghj.a0218wabhjklvcef.");

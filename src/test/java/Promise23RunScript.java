@@ -15,6 +15,7 @@ public final class Promise23RunScript {
         everyGroup("P1211l2wabcvdef.a1110");
         everyGroup("P0304t0" + "wavb.".repeat(20));
         everyGroup("P0300h0");
+        everyGroup("P0302h0wavb.wbva.wavc.");
         refused();
         Check.finish();
     }

@@ -15,7 +15,8 @@ final class Check {
     static final int[] FAR = {Integer.MIN_VALUE, Integer.MIN_VALUE + 1, -1000, 1000, 1 << 30,
         Integer.MAX_VALUE - 1, Integer.MAX_VALUE};
 
-    private static final int LONGEST_SECONDS = 300;
+    private static final int LONGEST_SECONDS = 120;
+    private static final int MOST_FAILURES = 20;
     private static final View[] VIEWS = {Check::state, Check::past, y -> slot(y, 0), y -> slot(y, 1), Check::text};
     private static final String[] VIEW_NAMES = {"the state", "the remembered states", "save slot 0",
         "save slot 1", "the text"};
@@ -52,6 +53,10 @@ final class Check {
         } else {
             failed++;
             System.out.println("FAILED: " + what);
+            if (failed == MOST_FAILURES) {
+                System.out.println("there may be more");
+                finish();
+            }
         }
     }
 
